@@ -261,13 +261,12 @@ public final class PageWords {
 
     private void cutDigitText() {
         int begin = here;
+        int end = tape.count();
         int waiting = BAD;
-        here++;
-        while (here < tape.count() && tape.get(here) != '>') {
+        for (here++; here < end && tape.get(here) != '>'; here++) {
             int b = tape.get(here);
             int digit = digitValue(b);
             if (isBlank(b)) {
-                here++;
                 continue;
             }
             if (digit < 0 || digit > 15) {
@@ -280,12 +279,11 @@ public final class PageWords {
                 store.put(16 * waiting + digit);
                 waiting = BAD;
             }
-            here++;
         }
         if (waiting != BAD) {
             store.put(16 * waiting);
         }
-        endText(begin, here < tape.count());
+        endText(begin, here < end);
     }
 
     private void cutBracketText() {
@@ -648,7 +646,7 @@ public final class PageWords {
         }
 
         private static int bucketOf(int hash) {
-            return (hash ^ hash >>> 15) & (BUCKETS - 1);
+            return (hash ^ (hash >>> 15)) & (BUCKETS - 1);
         }
     }
 

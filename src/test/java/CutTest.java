@@ -4,6 +4,7 @@ public final class CutTest {
         Due due = new Due();
         blanksAndComments(due);
         allIsNewWithEachCut(due);
+        nothingBehindTheEnd(due);
         nothingToClose(due);
         textsWithoutEnd(due);
         noDigits(due);
@@ -45,6 +46,31 @@ public final class CutTest {
         Due.type(x, "half q");
         due.is("nor is it later", Due.seen(x, x.cut()), "2 @6: 3=0@0 3=1@5 | 'half' 'q'");
         due.is("cut() of the tape that is empty now", Due.seen(x, x.cut()), "0 @0: |");
+    }
+
+    /** The bytes of a longer tape of before are no part of the shorter one. */
+    private static void nothingBehindTheEnd(Due due) {
+        PageWords x = new PageWords();
+        Due.type(x, "x<<");
+        due.is("a longer tape", Due.seen(x, x.cut()), "2 @3: 3=0@0 3=1@1 | 'x' '<<'");
+        Due.type(x, "x<");
+        due.is("a shorter one", Due.seen(x, x.cut()), "-2 @2: 3=0@0 | 'x'");
+        Due.type(x, "x>>");
+        due.is("a longer tape", Due.seen(x, x.cut()), "2 @3: 3=0@0 3=1@1 | 'x' '>>'");
+        Due.type(x, "x>");
+        due.is("a shorter one", Due.seen(x, x.cut()), "-1 @1: 3=0@0 | 'x'");
+        Due.type(x, "1234");
+        due.is("a longer tape", Due.seen(x, x.cut()), "1 @4: 1=1234@0 |");
+        Due.type(x, "12");
+        due.is("a shorter one", Due.seen(x, x.cut()), "1 @2: 1=12@0 |");
+        Due.type(x, "(\\\\)");
+        due.is("a longer tape", Due.seen(x, x.cut()), "1 @4: 5=0@0 | '\\'");
+        Due.type(x, "(\\");
+        due.is("a shorter one", Due.seen(x, x.cut()), "-2 @2: |");
+        Due.type(x, "AaBB BB Aa BB Aa");
+        due.is("texts that are the same", Due.seen(x, x.cut()), "5 @16: 3=0@0 3=1@5 3=2@8 3=1@11 3=2@14 | 'AaBB' 'BB' 'Aa'");
+        Due.type(x, "Aa BB AaBB BB Aa");
+        due.is("and in another order", Due.seen(x, x.cut()), "5 @16: 3=0@0 3=1@3 3=2@6 3=1@11 3=0@14 | 'Aa' 'BB' 'AaBB'");
     }
 
     private static void nothingToClose(Due due) {

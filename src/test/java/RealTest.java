@@ -7,6 +7,7 @@ public final class RealTest {
         rounding(due);
         greatest(due);
         exponents(due);
+        oneAfterTheOther(due);
         due.end();
     }
 
@@ -26,7 +27,7 @@ public final class RealTest {
     private static void names(Due due) {
         for (String name : new String[] {".", "+.", "-.", "..", "1..", "1.2.3", ".1.", ".e1", "-.e1", "e1", "E1", "-e1", "1e", "1E", "1e+",
             "1e-", "1.e", ".5e", "1e+-1", "1e1.", "1e1.5", "1e1e1", "1ee1", "1e1x", "1.5x", "1.-5", "1.+", "--1.5", "1f5", "1.5f", "1.5d",
-            "1e5#1", "1.5e99999x", "1,5", "-", "+", "1.e+x"}) {
+            "1e5#1", "1.5e99999x", "1,5", "1.:", "1.5:", "1.5\\", "1e:", "1e1:", "-", "+", "1.e+x"}) {
             due.program(name, "1 @" + name.length() + ": 3=0@0 | " + Due.shown(name));
         }
     }
@@ -41,6 +42,9 @@ public final class RealTest {
         real(due, "0.00000762939453124", 0);
         real(due, "-0.00000762939453124", 0);
         real(due, "-0.00000762939453126", -1);
+        real(due, "-0.000007781982421875", -1);
+        real(due, "-0.000007476806640625", 0);
+        real(due, "0.000007476806640625", 0);
         real(due, "0.0000152587890625", 1);
         real(due, "-0.0000152587890625", -1);
         real(due, "0.00002288818359375", 2);
@@ -102,6 +106,12 @@ public final class RealTest {
         real(due, Due.times(121, "9") + "e-121", 65536);
         real(due, Due.times(121, "9") + "e-200", 0);
         real(due, "123456789" + Due.times(100, "0") + "e-105", 80908641);
+    }
+
+    private static void oneAfterTheOther(Due due) {
+        due.program("1e4 .25 1e-4 -.5", "4 @16: 2=655360000@0 2=16384@4 2=7@8 2=-32768@13 |");
+        due.program("0.123456789 .5 -.00000762939453125 -1.", "4 @38: 2=8091@0 2=32768@12 2=0@15 2=-65536@35 |");
+        due.program("-1.5 2 2.5 -7 16#10", "5 @19: 2=-98304@0 1=2@5 2=163840@7 1=-7@11 1=16@14 |");
     }
 
     private static void real(Due due, String row, int number) {

@@ -96,28 +96,33 @@ public final class TextTest {
         due.program("a A aa (a\\0) (\\0) (\\0\\0) ()", "7 @27: 3=0@0 3=1@2 3=2@4 5=3@7 5=4@13 5=5@18 5=6@25 | 'a' 'A' 'aa' 'a~00' '~00' '~00~00' ''");
         due.program("(a) (a ) ( a)", "3 @13: 5=0@0 5=1@4 5=2@9 | 'a' 'a ' ' a'");
         due.program("Aa BB C# AaBB BBAa AaAa BBBB", "7 @28: 3=0@0 3=1@3 3=2@6 3=3@9 3=4@14 3=5@19 3=6@24 | 'Aa' 'BB' 'C#' 'AaBB' 'BBAa' 'AaAa' 'BBBB'");
+        due.program("Aa BB C# Aa BB C#", "6 @17: 3=0@0 3=1@3 3=2@6 3=0@9 3=1@12 3=2@15 | 'Aa' 'BB' 'C#'");
+        due.program("(\\37) (\\0\\0) <1f> <0000>", "4 @24: 5=0@0 5=1@6 5=0@13 5=1@18 | '~1f' '~00~00'");
         due.program("{a{a}b}", "7 @7: 6=6@0 3=0@1 6=4@2 3=0@3 7=2@4 3=1@5 7=0@6 | 'a' 'b'");
     }
 
     private static void manyTexts(Due due) {
         PageWords x = new PageWords();
+        int texts = 400;
         StringBuilder program = new StringBuilder();
-        int texts = 676;
-        for (int round = 0; round < 2; round++) {
-            for (int k = 0; k < texts; k++) {
-                program.append((char) ('a' + k / 26)).append((char) ('a' + k % 26)).append(' ');
-            }
-            Due.type(x, program.toString());
-            due.is("cut() of many names", x.cut(), (round + 1) * texts);
-            due.is("texts()", x.texts(), texts);
-            program.append(round == 0 ? "" : "x");
+        for (int k = 0; k < 2 * texts; k++) {
+            program.append(manyName(k % texts)).append(' ');
         }
-        for (int t = 0; t < texts; t += 75) {
+        Due.type(x, program.toString());
+        due.is("cut() of many names, each twice", x.cut(), 2 * texts);
+        due.is("texts()", x.texts(), texts);
+        for (int t = 0; t < texts; t += 40) {
             due.is("number(" + t + ")", x.number(t), t);
             due.is("number(" + (texts + t) + ")", x.number(texts + t), t);
-            due.is("at(" + t + ", 0)", x.at(t, 0), 'a' + t / 26);
-            due.is("at(" + t + ", 1)", x.at(t, 1), 'a' + t % 26);
+            due.is("size(" + t + ")", x.size(t), 4);
+            for (int k = 0; k < 4; k++) {
+                due.is("at(" + t + ", " + k + ")", x.at(t, k), manyName(t).charAt(k));
+            }
         }
+    }
+
+    private static String manyName(int t) {
+        return "n" + (char) ('A' + t % 7) + (char) ('a' + t / 7 % 8) + (char) ('0' + t / 56);
     }
 
     private static void noSuchText(Due due) {
