@@ -30,7 +30,7 @@ public final class CutTest {
     }
 
     private static void allIsNewWithEachCut(Due due) {
-        PageWords x = new PageWords();
+        Counted x = new Counted();
         Due.type(x, "/a (b) {c} [");
         due.is("first cut()", Due.seen(x, x.cut()), "6 @12: 4=0@0 5=1@3 6=4@7 3=2@8 7=2@9 3=3@11 | 'a' 'b' 'c' '['");
         Due.type(x, "zz b");
@@ -50,7 +50,7 @@ public final class CutTest {
 
     /** The bytes of a longer tape of before are no part of the shorter one. */
     private static void nothingBehindTheEnd(Due due) {
-        PageWords x = new PageWords();
+        Counted x = new Counted();
         Due.type(x, "x<<");
         due.is("a longer tape", Due.seen(x, x.cut()), "2 @3: 3=0@0 3=1@1 | 'x' '<<'");
         Due.type(x, "x<");
@@ -142,7 +142,7 @@ public final class CutTest {
     }
 
     private static void deepBraces(Due due) {
-        PageWords x = new PageWords();
+        Counted x = new Counted();
         Due.type(x, "a" + Due.times(64, "{"));
         due.is("64 open braces", x.cut(), -4);
         due.is("place()", x.place(), 65);
@@ -174,7 +174,7 @@ public final class CutTest {
     }
 
     private static void cutMany(Due due, String program, int want, int place) {
-        PageWords x = new PageWords();
+        Counted x = Counted.beyondPromise();
         Due.type(x, program);
         String told = program.length() + " bytes that end with " + Due.shown(program.substring(program.length() - 3));
         due.is("cut() of " + told, x.cut(), want);

@@ -1,13 +1,38 @@
 /** What the tests share: they compare answers with those that are due, and end with 1 if one was not. */
 final class Due {
+    private static final long LONGEST_MILLIS = 300_000;
+
     private int asked = 0;
     private int wrong = 0;
+    private String sentence = "";
+
+    Due() {
+        Thread watch = new Thread(Due::endIfTooLong);
+        watch.setDaemon(true);
+        watch.start();
+    }
+
+    /** A call that never ends is an answer that is not due, too. */
+    private static void endIfTooLong() {
+        try {
+            Thread.sleep(LONGEST_MILLIS);
+        } catch (InterruptedException e) {
+            return;
+        }
+        System.out.println("the test did not end");
+        Runtime.getRuntime().halt(1);
+    }
+
+    /** The sentence of the document that the next answers are about. */
+    void sentence(String told) {
+        sentence = told.isEmpty() ? "" : "[" + told + "] ";
+    }
 
     void is(String call, long got, long want) {
         asked++;
         if (got != want) {
             wrong++;
-            System.out.println(call + " answered " + got + ", due is " + want);
+            System.out.println(sentence + call + " answered " + got + ", due is " + want);
         }
     }
 
@@ -15,15 +40,44 @@ final class Due {
         asked++;
         if (!got.equals(want)) {
             wrong++;
-            System.out.println(call + " answered\n  " + got + ", due is\n  " + want);
+            System.out.println(sentence + call + " answered\n  " + got + ", due is\n  " + want);
         }
     }
 
     /** A program on a new object; what is due is in the form of seen(). */
     void program(String program, String want) {
-        PageWords x = new PageWords();
+        Counted x = new Counted();
         type(x, program);
         is("program " + shown(program), seen(x, x.cut()), want);
+    }
+
+    void whole(String row, int number) {
+        row(row, "1=" + number, "");
+    }
+
+    void real(String row, int number) {
+        row(row, "2=" + number, "");
+    }
+
+    void name(String row) {
+        row(row, "3=0", " " + shown(row));
+    }
+
+    /** A row as the only word, up to the tape's end and between blanks. */
+    private void row(String row, String word, String texts) {
+        program(row, "1 @" + row.length() + ": " + word + "@0 |" + texts);
+        program("\n" + row + " ", "1 @" + (row.length() + 2) + ": " + word + "@1 |" + texts);
+    }
+
+    /** A number that is wrong for reason 5. */
+    void tooGreat(String row) {
+        program(row, "-5 @0: |");
+        program("a " + row + " b", "-5 @2: 3=0@0 | 'a'");
+    }
+
+    /** A program that is one text, of these bytes. */
+    void text(String program, String bytes) {
+        program(program, "1 @" + program.length() + ": 5=0@0 | " + shown(bytes));
     }
 
     void end() {
@@ -34,7 +88,7 @@ final class Due {
     }
 
     /** Types characters 0 .. 255 as bytes, eight with each call as long as there are eight. */
-    static int type(PageWords x, String program) {
+    static int type(Counted x, String program) {
         int length = 0;
         for (int from = 0; from < program.length(); from += 8) {
             int to = Math.min(program.length(), from + 8);
@@ -48,7 +102,7 @@ final class Due {
     }
 
     /** "cut's answer @place: kind=number@begin .. | text text ..", from the answers of the object. */
-    static String seen(PageWords x, int cut) {
+    static String seen(Counted x, int cut) {
         StringBuilder s = new StringBuilder();
         s.append(cut).append(" @").append(x.place()).append(':');
         int words = x.words();

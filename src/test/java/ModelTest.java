@@ -29,14 +29,14 @@ public final class ModelTest {
 
     public static void main(String[] args) {
         Due due = new Due();
-        PageWords used = new PageWords();
+        Counted used = new Counted();
         for (int run = 0; run < 60000; run++) {
             String program = anyProgram();
             String want = new Model(program).seen();
             due.program(program, want);
             // An object that has cut other programs: nothing of before may be left.
             if (run % 4 == 0) {
-                used = new PageWords();
+                used = new Counted();
             }
             Due.type(used, program);
             due.is("program " + Due.shown(program) + " on a used object", Due.seen(used, used.cut()), want);

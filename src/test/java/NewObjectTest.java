@@ -20,7 +20,7 @@ public final class NewObjectTest {
     }
 
     private static void emptyAtFirst(Due due) {
-        PageWords x = new PageWords();
+        Counted x = new Counted();
         due.is("words() of a new object", x.words(), 0);
         due.is("texts() of a new object", x.texts(), 0);
         due.is("place() of a new object", x.place(), 0);
@@ -32,14 +32,14 @@ public final class NewObjectTest {
     }
 
     private static void emptyAfterAnEmptyCut(Due due) {
-        PageWords x = new PageWords();
+        Counted x = new Counted();
         due.is("cut() of no bytes", x.cut(), 0);
         due.is("place() behind it", x.place(), 0);
         due.is("words() behind it", x.words(), 0);
         due.is("texts() behind it", x.texts(), 0);
     }
 
-    private static void nothingThere(Due due, PageWords x) {
+    private static void nothingThere(Due due, Counted x) {
         for (int w : ODD) {
             due.is("kind(" + w + ")", x.kind(w), -1);
             due.is("number(" + w + ")", x.number(w), -1);
@@ -51,8 +51,8 @@ public final class NewObjectTest {
     }
 
     private static void objectsAreApart(Due due) {
-        PageWords x = new PageWords();
-        PageWords y = new PageWords();
+        Counted x = new Counted();
+        Counted y = new Counted();
         Due.type(x, "/a {b} 7");
         due.is("type() on another object", Due.type(y, "zz"), 2);
         due.is("one of two objects", Due.seen(x, x.cut()), "5 @8: 4=0@0 6=3@3 3=1@4 7=1@5 1=7@7 | 'a' 'b'");

@@ -18,9 +18,9 @@ public final class TextTest {
         due.program("((a)(b(c)))(d)", "2 @14: 5=0@0 5=1@11 | '(a)(b(c))' 'd'");
         due.program("([{<>}]/%\0\t\f x)", "1 @15: 5=0@0 | '[{<>}]/%~00~09~0c x'");
         due.program("(\200\377)", "1 @4: 5=0@0 | '~80~ff'");
-        String deep = Due.times(500, "(") + Due.times(500, ")");
-        due.program("(" + deep + ")", "1 @1002: 5=0@0 | '" + deep + "'");
-        due.program("(" + deep, "-2 @1001: |");
+        String deep = Due.times(200, "(") + Due.times(200, ")");
+        due.program("(" + deep + ")", "1 @402: 5=0@0 | '" + deep + "'");
+        due.program("(" + deep, "-2 @401: |");
     }
 
     private static void escapes(Due due) {
@@ -102,8 +102,8 @@ public final class TextTest {
     }
 
     private static void manyTexts(Due due) {
-        PageWords x = new PageWords();
-        int texts = 400;
+        Counted x = new Counted();
+        int texts = 300;
         StringBuilder program = new StringBuilder();
         for (int k = 0; k < 2 * texts; k++) {
             program.append(manyName(k % texts)).append(' ');
@@ -126,7 +126,7 @@ public final class TextTest {
     }
 
     private static void noSuchText(Due due) {
-        PageWords x = new PageWords();
+        Counted x = new Counted();
         Due.type(x, "/ abc (d) 5 x {");
         due.is("cut()", x.cut(), -4);
         due.is("texts()", x.texts(), 4);
@@ -154,10 +154,10 @@ public final class TextTest {
     }
 
     private static void text(Due due, String inside, String bytes) {
-        due.program("(" + inside + ")", "1 @" + (inside.length() + 2) + ": 5=0@0 | " + Due.shown(bytes));
+        due.text("(" + inside + ")", bytes);
     }
 
     private static void digits(Due due, String inside, String bytes) {
-        due.program("<" + inside + ">", "1 @" + (inside.length() + 2) + ": 5=0@0 | " + Due.shown(bytes));
+        due.text("<" + inside + ">", bytes);
     }
 }

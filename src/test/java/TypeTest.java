@@ -11,7 +11,7 @@ public final class TypeTest {
     }
 
     private static void howMany(Due due) {
-        PageWords x = new PageWords();
+        Counted x = new Counted();
         int length = 0;
         for (int n = 1; n <= 8; n++) {
             length += n;
@@ -24,7 +24,7 @@ public final class TypeTest {
     }
 
     private static void wrongCounts(Due due) {
-        PageWords x = new PageWords();
+        Counted x = new Counted();
         due.is("type(0x41, 1)", x.type(0x41, 1), 1);
         for (int n : new int[] {0, 9, -1, 10, 16, 64, 257, Integer.MIN_VALUE, Integer.MAX_VALUE}) {
             due.is("type(0x42, " + n + ")", x.type(0x42, n), -1);
@@ -34,18 +34,18 @@ public final class TypeTest {
 
     private static void order(Due due) {
         for (int n = 1; n <= 8; n++) {
-            PageWords x = new PageWords();
+            Counted x = new Counted();
             due.is("type(.., " + n + ")", x.type(0x4142434445464748L, n), n);
             due.is("the lowest " + n, Due.seen(x, x.cut()), "1 @" + n + ": 3=0@0 | '" + "ABCDEFGH".substring(8 - n) + "'");
         }
-        PageWords x = new PageWords();
+        Counted x = new Counted();
         due.is("a negative long", x.type(0x8142434445464748L, 8), 8);
         due.is("a negative long's bytes", Due.seen(x, x.cut()), "1 @8: 3=0@0 | '~81BCDEFGH'");
     }
 
     private static void everyByte(Due due) {
         for (int b = 0; b < 256; b++) {
-            PageWords x = new PageWords();
+            Counted x = new Counted();
             Due.type(x, "(" + "\\" + (char) b + ")");
             boolean other = "nrtbf01234567\n\r".indexOf(b) < 0;
             if (other) {
@@ -56,7 +56,7 @@ public final class TypeTest {
 
     // An object is promised for 512 calls only, and these need more; they show the limit as it is built.
     private static void tapeOfMostBytes(Due due) {
-        PageWords x = new PageWords();
+        Counted x = Counted.beyondPromise();
         for (int k = 0; k < 8191; k++) {
             x.type(0x2020202020202020L, 8);
         }

@@ -22,7 +22,7 @@ public final class WordTest {
     }
 
     private static void noSuchWord(Due due) {
-        PageWords x = new PageWords();
+        Counted x = new Counted();
         Due.type(x, "a 5");
         due.is("cut()", x.cut(), 2);
         for (int w : new int[] {-1, -2, 2, 3, 63, 64, 65, 16384, Integer.MIN_VALUE, Integer.MAX_VALUE}) {
@@ -42,65 +42,53 @@ public final class WordTest {
     }
 
     private static void wholeNumbers(Due due) {
-        whole(due, "0", 0);
-        whole(due, "-0", 0);
-        whole(due, "+0", 0);
-        whole(due, "0123456789", 123456789);
-        whole(due, "+2147483647", Integer.MAX_VALUE);
-        whole(due, "-2147483648", Integer.MIN_VALUE);
-        whole(due, "-0000000000000000000000000000000000000002147483648", Integer.MIN_VALUE);
-        tooGreat(due, "2147483648");
-        tooGreat(due, "+2147483648");
-        tooGreat(due, "-2147483649");
-        tooGreat(due, "4294967295");
-        tooGreat(due, "4294967296");
-        tooGreat(due, "-4294967296");
-        tooGreat(due, "18446744073709551616");
-        tooGreat(due, "18446744073709551623");
-        tooGreat(due, "340282366920938463463374607431768211456");
+        due.whole("0", 0);
+        due.whole("-0", 0);
+        due.whole("+0", 0);
+        due.whole("0123456789", 123456789);
+        due.whole("+2147483647", Integer.MAX_VALUE);
+        due.whole("-2147483648", Integer.MIN_VALUE);
+        due.whole("-0000000000000000000000000000000000000002147483648", Integer.MIN_VALUE);
+        due.tooGreat("2147483648");
+        due.tooGreat("+2147483648");
+        due.tooGreat("-2147483649");
+        due.tooGreat("4294967295");
+        due.tooGreat("4294967296");
+        due.tooGreat("-4294967296");
+        due.tooGreat("18446744073709551616");
+        due.tooGreat("18446744073709551623");
+        due.tooGreat("340282366920938463463374607431768211456");
         for (String name : new String[] {"+", "-", "--1", "+-1", "-+1", "1-", "1+1", "12a", "a12", "1,2", "1:", ":1", "99999999999x", "\2611"}) {
-            name(due, name);
+            due.name(name);
         }
     }
 
     private static void numbersWithBase(Due due) {
-        whole(due, "2#0", 0);
-        whole(due, "2#1010", 10);
-        whole(due, "02#11", 3);
-        whole(due, "8#777", 511);
-        whole(due, "10#19", 19);
-        whole(due, "11#1a", 21);
-        whole(due, "11#1A", 21);
-        whole(due, "16#1e5", 0x1e5);
-        whole(due, "16#deadBEEF", 0xdeadbeef);
-        whole(due, "16#80000000", Integer.MIN_VALUE);
-        whole(due, "36#1z141z3", -1);
-        whole(due, "36#zZ", 1295);
-        whole(due, "10#4294967295", -1);
-        whole(due, "2#11111111111111111111111111111111", -1);
-        whole(due, "16#00000000000000000000FFFFFFFF", -1);
-        tooGreat(due, "10#4294967296");
-        tooGreat(due, "36#1z141z4");
-        tooGreat(due, "2#100000000000000000000000000000000");
-        tooGreat(due, "36#" + Due.times(124, "z"));
-        tooGreat(due, "16#10000000000000000");
+        due.whole("2#0", 0);
+        due.whole("2#1010", 10);
+        due.whole("02#11", 3);
+        due.whole("8#777", 511);
+        due.whole("10#19", 19);
+        due.whole("11#1a", 21);
+        due.whole("11#1A", 21);
+        due.whole("16#1e5", 0x1e5);
+        due.whole("16#deadBEEF", 0xdeadbeef);
+        due.whole("16#80000000", Integer.MIN_VALUE);
+        due.whole("36#1z141z3", -1);
+        due.whole("36#zZ", 1295);
+        due.whole("10#4294967295", -1);
+        due.whole("2#11111111111111111111111111111111", -1);
+        due.whole("16#00000000000000000000FFFFFFFF", -1);
+        due.tooGreat("10#4294967296");
+        due.tooGreat("36#1z141z4");
+        due.tooGreat("2#100000000000000000000000000000000");
+        due.tooGreat("36#" + Due.times(124, "z"));
+        due.tooGreat("16#10000000000000000");
         for (String name : new String[] {"#", "#1", "2#", "0#0", "1#0", "00#0", "01#0", "37#1", "99#1", "002#1", "100#1", "2#2",
             "2#102", "10#a", "11#b", "35#z", "35#Z", "16#g", "16#1#1", "16#-1", "16#+1", "+16#1", "-16#1", "16#1.5", "16#ffffffffffg",
             "a#1", "1.#1", "16#\301", "36#@", "36#`"}) {
-            name(due, name);
+            due.name(name);
         }
         due.program("36#{}", "3 @5: 3=0@0 6=2@3 7=1@4 | '36#'");
-    }
-
-    private static void whole(Due due, String row, int number) {
-        due.program(" " + row, "1 @" + (row.length() + 1) + ": 1=" + number + "@1 |");
-    }
-
-    private static void tooGreat(Due due, String row) {
-        due.program("a " + row + " b", "-5 @2: 3=0@0 | 'a'");
-    }
-
-    private static void name(Due due, String row) {
-        due.program(" " + row, "1 @" + (row.length() + 1) + ": 3=0@1 | " + Due.shown(row));
     }
 }
