@@ -19,6 +19,7 @@ public final class CallEdgesTest {
         numberOfBraces(due);
         beginOfNoSuchWord(due);
         howManyTexts(due);
+        mostTexts(due);
         sizeOfNoSuchText(due);
         noSuchByte(due);
         askingChangesNothing(due);
@@ -279,6 +280,35 @@ public final class CallEdgesTest {
         for (String wrong : new String[] {"a (b", "a <62", "a <62z>", "a )b", "a 9999999999", "a " + Due.times(128, "r"), "a /" + Due.times(128, "r")}) {
             due.is("texts() of " + Due.shown(wrong), cutOf(wrong).texts(), 1);
         }
+    }
+
+    // As many texts as words need more than the 512 calls that are promised; the limit is tested as it is built.
+    private static void mostTexts(Due due) {
+        due.sentence("Promise 9: How many texts there are: each word may have its own");
+        differentTexts(due, new Counted(), 960);
+        differentTexts(due, Counted.beyondPromise(), 16384);
+    }
+
+    private static void differentTexts(Due due, Counted x, int texts) {
+        StringBuilder program = new StringBuilder();
+        for (int t = 0; t < texts; t++) {
+            program.append(differentName(t)).append(' ');
+        }
+        Due.type(x, program.toString());
+        due.is("cut() of " + texts + " different names", x.cut(), texts);
+        due.is("texts()", x.texts(), texts);
+        for (int t : new int[] {0, texts / 2, texts - 1}) {
+            due.is("number(" + t + ")", x.number(t), t);
+            due.is("size(" + t + ")", x.size(t), 3);
+            for (int k = 0; k < 3; k++) {
+                due.is("at(" + t + ", " + k + ")", x.at(t, k), differentName(t).charAt(k));
+            }
+        }
+        due.is("size(" + texts + ")", x.size(texts), -1);
+    }
+
+    private static String differentName(int t) {
+        return "" + (char) ('a' + t % 26) + (char) ('A' + t / 26 % 26) + (char) ('a' + t / 676);
     }
 
     private static void sizeOfNoSuchText(Due due) {
