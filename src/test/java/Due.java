@@ -1,6 +1,6 @@
 /** What the tests share: they compare answers with those that are due, and end with 1 if one was not. */
 final class Due {
-    private static final long LONGEST_MILLIS = 300_000;
+    private static final long LONGEST_MILLIS = 120_000;
 
     private int asked = 0;
     private int wrong = 0;
